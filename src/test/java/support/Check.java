@@ -1,0 +1,107 @@
+/** What the tests share: due answers, due exceptions, and texts fed to an object. */
+final class Check {
+    private static int wrong = 0;
+
+    private Check() {
+    }
+
+    interface Call {
+        long answer();
+    }
+
+    static void same(String what, long want, long got) {
+        if (want != got) {
+            wrong++;
+            System.out.println(what + " answered " + got + ", due is " + want);
+        }
+    }
+
+    static void same(String what, String want, String got) {
+        if (!want.equals(got)) {
+            wrong++;
+            System.out.println(what + " answered\n" + got + "\ndue is\n" + want);
+        }
+    }
+
+    /** The class itself, not one below it: what the Java machine throws by itself is never due. */
+    static void refuses(String what, Class<? extends RuntimeException> due, Call call) {
+        try {
+            long got = call.answer();
+            wrong++;
+            System.out.println(what + " answered " + got + ", due is " + due.getSimpleName());
+        } catch (RuntimeException e) {
+            if (e.getClass() != due) {
+                wrong++;
+                System.out.println(what + " threw " + e + ", due is " + due.getSimpleName());
+            }
+        }
+    }
+
+    static int wrongSoFar() {
+        return wrong;
+    }
+
+    static void finish() {
+        System.out.println(wrong == 0 ? "all answers are as due" : wrong + " answers are not as due");
+        if (wrong != 0) {
+            System.exit(1);
+        }
+    }
+
+    /** Puts the text on the tape, behind what is there. */
+    static void feed(TileChoice x, String text) {
+        int before = x.count(7);
+        for (int i = 0; i < text.length(); i += 20) {
+            x.feed(four(text, i), four(text, i + 4), four(text, i + 8), four(text, i + 12), four(text, i + 16));
+        }
+        x.end(before + text.length());
+    }
+
+    private static int four(String text, int from) {
+        int bytes = 0;
+        for (int i = from; i < from + 4; i++) {
+            bytes = bytes << 8 | (i < text.length() ? text.charAt(i) & 255 : 0);
+        }
+        return bytes;
+    }
+
+    static int machine(TileChoice x, String text) {
+        feed(x, text);
+        return x.machine();
+    }
+
+    static int program(TileChoice x, String text) {
+        feed(x, text);
+        return x.program();
+    }
+
+    static TileChoice with(String machine, String program) {
+        TileChoice x = new TileChoice();
+        same("machine " + machine, -1, machine(x, machine));
+        same("program " + program, -1, program(x, program));
+        return x;
+    }
+
+    static String result(TileChoice x) {
+        StringBuilder text = new StringBuilder();
+        int length = x.count(6);
+        for (int i = 0; i < length; i += 8) {
+            long eight = x.word(i);
+            for (int j = 0; j < 8; j++) {
+                int b = (int) (eight >>> 56 - 8 * j) & 255;
+                if (i + j < length) {
+                    text.append((char) b);
+                } else {
+                    same("byte " + (i + j) + " behind the result", 0, b);
+                }
+            }
+        }
+        return text.toString();
+    }
+
+    static String listing(TileChoice x) {
+        int length = x.list();
+        same("count(6) behind list()", length, x.count(6));
+        return result(x);
+    }
+}
