@@ -66,9 +66,10 @@ public final class TapeTest {
         Check.feed(y, full.substring(0, 8172));
         y.feed(0x20202020, 0x20202020, 0x20202020, 0x20202020, 0x20202020);
         Check.same("a text of 8192 bytes", -1, y.program());
-        Check.feed(y, full.substring(0, 8172));
-        y.feed(0x20202020, 0x20202020, 0x20202020, 0x20202020, 0x20202030);
-        Check.same("the last byte counts", 8191, y.program());
+        TileChoice z = new TileChoice();
+        Check.feed(z, full.substring(0, 8172));
+        z.feed(0x20202020, 0x20202020, 0x20202020, 0x20202020, 0x20202030);
+        Check.same("the last byte counts", 8191, z.program());
     }
 
     /** A byte 0 begins no sign. */

@@ -1,6 +1,13 @@
+import java.io.IOException;
+import java.nio.file.Files;
+import java.nio.file.Path;
+
 /** What the tests share: due answers, due exceptions, and texts fed to an object. */
 final class Check {
+    private static final Path DOCUMENT = Path.of("../shared/DOC.md");
     private static int wrong = 0;
+    private static String document = null;
+    private static String sentence = "";
 
     private Check() {
     }
@@ -9,30 +16,60 @@ final class Check {
         long answer();
     }
 
+    /** What follows tests these words of the document; they are looked for there, so that no quote is a made one. */
+    static void sentence(String words) {
+        sentence = words;
+        if (document == null) {
+            document = readDocument();
+        }
+        if (!document.isEmpty() && !document.contains(words)) {
+            tell("the document says nowhere: " + words);
+        }
+    }
+
+    private static String readDocument() {
+        try {
+            return Files.readString(DOCUMENT).replaceAll("\\s+", " ");
+        } catch (IOException e) {
+            System.out.println("quotes are not looked for: there is no " + DOCUMENT);
+            return "";
+        }
+    }
+
+    private static void tell(String fault) {
+        wrong++;
+        System.out.println((sentence.isEmpty() ? "" : "[" + sentence + "] ") + fault);
+    }
+
     static void same(String what, long want, long got) {
         if (want != got) {
-            wrong++;
-            System.out.println(what + " answered " + got + ", due is " + want);
+            tell(what + " answered " + got + ", due is " + want);
         }
     }
 
     static void same(String what, String want, String got) {
         if (!want.equals(got)) {
-            wrong++;
-            System.out.println(what + " answered\n" + got + "\ndue is\n" + want);
+            int same = 0;
+            while (same < want.length() && same < got.length() && want.charAt(same) == got.charAt(same)) {
+                same++;
+            }
+            tell(what + " answered from " + same + " on\n" + piece(got, same) + "\ndue is\n" + piece(want, same));
         }
+    }
+
+    /** Some of a text around where it differs from another: enough to see how, not so much as to hide it. */
+    private static String piece(String text, int around) {
+        return text.substring(Math.max(0, around - 100), Math.min(text.length(), around + 100));
     }
 
     /** The class itself, not one below it: what the Java machine throws by itself is never due. */
     static void refuses(String what, Class<? extends RuntimeException> due, Call call) {
         try {
             long got = call.answer();
-            wrong++;
-            System.out.println(what + " answered " + got + ", due is " + due.getSimpleName());
+            tell(what + " answered " + got + ", due is " + due.getSimpleName());
         } catch (RuntimeException e) {
             if (e.getClass() != due) {
-                wrong++;
-                System.out.println(what + " threw " + e + ", due is " + due.getSimpleName());
+                tell(what + " threw " + e + ", due is " + due.getSimpleName());
             }
         }
     }
