@@ -11,6 +11,7 @@ public final class CallEdgesTest {
         feedInOrder();
         feedRefused();
         end();
+        nothingBehindTheEnd();
         machineEmptiesTheTape();
         programEmptiesTheTape();
         begin();
@@ -147,6 +148,54 @@ public final class CallEdgesTest {
         Check.feed(x, "ret(1)");
         Check.same("none", 0, x.end(0));
         Check.same("nothing", 0, x.program());
+    }
+
+    /** What was cut off, or stood there in an earlier text, is behind the end: no sign goes on into it. */
+    private static void nothingBehindTheEnd() {
+        Check.sentence("The TAPE keeps its first n bytes: n.");
+        for (String more : new String[] {"0", "9", ")", "k", ";\n)", "\u00ff"}) {
+            TileChoice x = new TileChoice();
+            Check.feed(x, "k = var 1000" + more);
+            x.end(12);
+            Check.same("a number ends there, then " + more, -1, x.machine());
+        }
+        TileChoice x = new TileChoice();
+        Check.feed(x, "k = abcdefghi 1");
+        x.end(12);
+        Check.same("a word of eight ends there", 12, x.machine());
+        TileChoice y = new TileChoice();
+        Check.feed(y, "set v1(1) set v16(3)");
+        y.end(16);
+        Check.same("a variable ends there", 16, y.program());
+        Check.feed(y, "set v12(3) set v12(3)");
+        y.end(16);
+        Check.same("its v is a word there", 15, y.program());
+        Check.feed(y, "ret(-2147483648)");
+        y.end(5);
+        Check.same("a - has no digit there", 4, y.program());
+        Check.feed(y, "ret(1) ret(2)");
+        y.end(7);
+        Check.same("one tree", -1, y.program());
+        Check.same("one tree", 1, y.count(3));
+        // At the very end of a full tape, each kind of sign: nothing at all is behind it.
+        String[] last = {"k = var 12", "k = var 12;", "k = var 1 kind", "k = #(1:v", "k = var -", "k = var 1 v1"};
+        int[] place = {-1, -1, 8192, 8191, 8191, 8190};
+        for (int i = 0; i < last.length; i++) {
+            Check.same("full: " + last[i], place[i], full(last[i]).machine());
+        }
+    }
+
+    private static TileChoice full(String atItsEnd) {
+        TileChoice x = new TileChoice();
+        String text = " ".repeat(8192 - atItsEnd.length()) + atItsEnd;
+        Check.feed(x, text.substring(0, 8180));
+        x.end(8172);
+        int[] four = new int[5];
+        for (int i = 0; i < 20; i++) {
+            four[i / 4] = four[i / 4] << 8 | text.charAt(8172 + i);
+        }
+        Check.same("full", 8192, x.feed(four[0], four[1], four[2], four[3], four[4]));
+        return x;
     }
 
     private static void machineEmptiesTheTape() {

@@ -5,6 +5,7 @@ public final class ChoiceEdgesTest {
     public static void main(String[] args) {
         allCovered();
         fromTheGoalOn();
+        deepest();
         above0();
         operands();
         need();
@@ -72,6 +73,32 @@ public final class ChoiceEdgesTest {
         TileChoice x = Check.with(machine.toString(), "ret(5)");
         Check.same("instructions", 40, x.count(12));
         Check.same("listing", due.toString(), Check.listing(x));
+    }
+
+    /** As deep as E can be open, down the left parts and down the right ones. */
+    private static void deepest() {
+        Check.sentence("then its parts as its KS, from the left");
+        String machine = "s = ret(r) 1 s = store(r, r) 1 r = # 1 r = sub(r, r) 1 r = neg(r) 1";
+        String left = "sub(".repeat(29) + "1" + ", 2)".repeat(29);
+        String right = "sub(2, ".repeat(29) + "1" + ")".repeat(29);
+        TileChoice x = Check.with(machine, "ret(" + left + ")");
+        Check.same("left: instructions", 60, x.count(12));
+        Check.same("left: need", 2, x.count(13));
+        Check.same("left: run(true)", 1 - 2 * 29, x.run(true));
+        Check.same("left: run(false)", 1 - 2 * 29, x.run(false));
+        TileChoice y = Check.with(machine, "ret(" + right + ")");
+        Check.same("right: instructions", 60, y.count(12));
+        Check.same("right: need", 2, y.count(13));
+        // 2 - (2 - (.. - 1)): 29 of them.
+        Check.same("right: run(true)", 1, y.run(true));
+        Check.same("right: run(false)", 1, y.run(false));
+        TileChoice z = Check.with(machine, "store(" + left + "," + right + ")");
+        Check.same("both: instructions", 119, z.count(12));
+        Check.same("both: need", 3, z.count(13));
+        z.run(true);
+        Check.same("both: cell", 1, z.cell(1 - 2 * 29 & 255));
+        TileChoice u = Check.with(machine, "ret(" + "neg(".repeat(29) + "7" + ")".repeat(30));
+        Check.same("neg: listing", "r0 = 2\n" + "r0 = 4 r0\n".repeat(29) + "r0 = 0 r0\n", Check.listing(u));
     }
 
     private static void above0() {

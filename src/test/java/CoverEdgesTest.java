@@ -11,6 +11,7 @@ public final class CoverEdgesTest {
         againAndAgain();
         less();
         whateverItIs();
+        greatestMachine();
         goal();
         notCovered();
         costRefused();
@@ -203,6 +204,38 @@ public final class CoverEdgesTest {
                 "ret(v1)");
         node(x, 1, 1, 3, 3);
         node(x, 0, 0, 7, 7);
+        // The first FLAT RULE of all stays, too, with what costs as much or more behind it.
+        node(Check.with("r = var 4 r = var 4 r = var 5 r = r 0", "ret(v1)"), 1, 0, 4, 0);
+        node(Check.with("r = var 4 r = var 5 r = var 3", "ret(v1)"), 1, 0, 3, 2);
+        node(Check.with("r = c 1 c = var 3 c = r 0 r = var 5", "ret(v1)"), 1, 0, 4, 0);
+    }
+
+    /** 20 KINDS and 60 PARTS, 60 RULES and 120 FLAT RULES: the last ones count as the first ones do. */
+    private static void greatestMachine() {
+        Check.sentence("What is left: K = K (a CHAIN), K = var, K = #.., K = OP (K ..), with the cost of its RULE.");
+        StringBuilder machine = new StringBuilder("ka = ret(neg(kb)) 1");
+        for (int r = 1; r < 60; r++) {
+            machine.append(" k" + (char) ('a' + r % 20) + " = neg(#(" + r + ")) " + r);
+        }
+        TileChoice x = Check.with(machine.toString(), "ret(neg(neg(41))) ret(neg(neg(59)))");
+        Check.same("rules", 60, x.count(0));
+        Check.same("kinds", 20, x.count(1));
+        Check.same("flat rules", 120, x.count(2));
+        node(x, 0, 0, 42, 1);
+        node(x, 2, 1, 41, 83);
+        node(x, 6, 19, 59, 119);
+        node(x, 4, 0, -1, -1);
+        for (int k = 0; k < 20; k++) {
+            node(x, 3, k, -1, -1);
+            node(x, 7, k, -1, -1);
+        }
+        Check.refuses("PARTS are none", IndexOutOfBoundsException.class, () -> x.cost(3, 20));
+        int[] states = {3, 2, 1, 0, 6, 6, 5, 4};
+        for (int n = 0; n < 8; n++) {
+            Check.same("state(" + n + ")", states[n], x.state(n));
+        }
+        Check.same("states", 7, x.count(10));
+        Check.same("even", 1, x.even() ? 1 : 0);
     }
 
     private static void whateverItIs() {

@@ -232,6 +232,14 @@ public final class StateEdgesTest {
         // A KIND that is no GOAL counts as well.
         String other = "s = var 0 r = neg(k) 0 r = neg(l) 1000 l = var 0 k = l 1000";
         Check.same("not the goal", 0, isEven(Check.with(other, "ret(neg(v1))")));
+        // The first NODE as the first KIND alone; then a STATE with the first FLAT RULE, where COVERING has another.
+        TileChoice first = Check.with("s = ret(k) 0 s = ret(l) 1000 l = var 0 k = l 1000", "ret(v1)");
+        Check.same("by covering", 0, first.rule(0, 0));
+        Check.same("the first NODE", 0, isEven(first));
+        TileChoice second = Check.with("s = ret(l) 1000 s = ret(k) 0 m = var 0 l = var 500 k = var 1000", "ret(v1)");
+        Check.same("by covering", 1, second.rule(0, 0));
+        Check.same("the first FLAT RULE", 0, isEven(second));
+        Check.same("999", 1, isEven(Check.with("s = ret(l) 1000 s = ret(k) 0 m = var 0 l = var 500 k = var 999", "ret(v1)")));
         // A KIND that the STATE has not is no matter, though COVERING has it.
         Check.same("cut away", 1, isEven(Check.with("s = ret(k) 0 l = var 0 k = l 1000", "ret(v1)")));
         Check.same("nothing at all", 1, isEven(Check.with("s = # 0", "ret(v1)")));

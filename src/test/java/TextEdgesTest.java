@@ -119,6 +119,9 @@ public final class TextEdgesTest {
         }
         TextCheck.wrongMachine("k = " + "neg(".repeat(20), around(1, "k") + ")".repeat(20) + " 1", 1);
         TextCheck.wrongMachine("k = " + "neg(".repeat(20), "neg(".repeat(2000), 1);
+        TextCheck.wrongMachine("k = " + "neg(".repeat(20), ")".repeat(20) + " 1", 1);
+        TextCheck.wrongMachine("k = " + "neg(".repeat(19), ")".repeat(19) + " 1", 1);
+        TextCheck.wrongMachine("k = " + "neg(".repeat(20), "", 1);
         // Those that are closed, of parts before and of RULES before, are open no more.
         TextCheck.rightMachine("k = add(" + around(18, "k") + "," + around(18, "k") + ") 1 k = " + around(19, "k") + " 1");
         TextCheck.wrongMachine("k = store(k, " + "neg(".repeat(19), "k" + ")".repeat(20) + " 1", 1);
@@ -137,6 +140,9 @@ public final class TextEdgesTest {
         }
         TextCheck.wrongProgram("ret(" + "neg(".repeat(30), "neg(1)" + ")".repeat(31), 1);
         TextCheck.wrongProgram("ret(" + "neg(".repeat(30), "neg(".repeat(2000), 1);
+        TextCheck.wrongProgram("ret(" + "neg(".repeat(30), ")".repeat(31), 1);
+        TextCheck.wrongProgram("ret(" + "neg(".repeat(29), ")".repeat(30), 1);
+        TextCheck.wrongProgram("ret(" + "neg(".repeat(30), "", 1);
         TextCheck.rightProgram("store(" + around(29, "1") + "," + around(29, "1") + ") ret(" + around(29, "1") + ")");
         TextCheck.wrongProgram("store(1, " + "neg(".repeat(30), "1" + ")".repeat(31), 1);
         Check.same("the deepest has its value", -5, TextCheck.valueOf(around(29, "5")));
@@ -332,6 +338,7 @@ public final class TextEdgesTest {
             TextCheck.wrongProgram(EIGHT.repeat(50) + " ", tree, 4);
         }
         TextCheck.wrongProgram(EIGHT.repeat(50) + " ", EIGHT.repeat(10), 4);
+        TextCheck.wrongProgram(all + "store(add(1,2), mul(3, 4)) set v1(", "1)", 4);
         // The variable behind set is no NODE.
         TextCheck.rightProgram(all + "set v1(add(add(1, 2), add(3, v4)))");
         TextCheck.wrongProgram(all + "set v1(add(add(1, 2), add(3, neg(", "v4))))", 4);
