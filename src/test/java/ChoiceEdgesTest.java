@@ -224,6 +224,13 @@ public final class ChoiceEdgesTest {
                 "r0 = 2", "r1 = 2", "r0 = 3 r0 r1", "r1 = 2", "r2 = 2", "r1 = 3 r1 r2", "r2 = 2", "r3 = 2");
         // One alone, and none.
         listing(machine, "ret(v1) ret(v2)", 1, "r0 = 2", "r0 = 2");
+        // Many, and once more with the same object: what was there before is gone.
+        TileChoice x = Check.with("s = ret(r) 0 r = add(r, r) 0 r = # 1", "ret(" + sum(60) + ")");
+        String first = Check.listing(x);
+        Check.program(x, "ret(" + sum(60) + ")");
+        Check.same("once more", first, Check.listing(x));
+        Check.program(x, "ret(1)");
+        Check.same("then one", "r0 = 2\n", Check.listing(x));
         listing("s = ret(r) 0 r = # 0", "ret(1) ret(2)", 0);
     }
 
