@@ -167,7 +167,7 @@ public final class TileChoice {
     public int state(int n) throws IllegalStateException, IndexOutOfBoundsException {
         needBoth();
         needNode(n);
-        return states.told ? states.ofNode[n] : NONE;
+        return states.told ? states.stateOf(n) : NONE;
     }
 
     public boolean even() throws IllegalStateException {
@@ -1030,7 +1030,7 @@ public final class TileChoice {
         private final Covering covering;
         private final Machine tiles;
         private final Trees trees;
-        final int[] ofNode = new int[NODE_LIMIT];
+        private final int[] ofNode = new int[NODE_LIMIT];
         private final int[] reckoned = new int[NODE_LIMIT];
         private int reckonedCount;
         private int[] stateCosts = new int[0];
@@ -1056,23 +1056,36 @@ public final class TileChoice {
             told = true;
             for (int i = 0; i < nodes && told; i++) {
                 int node = trees.byEnd[i];
+                if (node < 0 || node >= NODE_LIMIT) {
+                    continue;
+                }
                 int twin = findTwin(node);
                 if (twin >= 0) {
-                    ofNode[node] = ofNode[twin];
+                    ofNode[node] = stateOf(twin);
                     foundAgain++;
                 } else {
                     ofNode[node] = reckonState(node);
-                    reckoned[reckonedCount] = node;
-                    reckonedCount++;
                     told = ofNode[node] >= 0;
+                    keepReckoned(node);
                 }
             }
+        }
+
+        private void keepReckoned(int node) {
+            if (reckonedCount < NODE_LIMIT) {
+                reckoned[reckonedCount] = node;
+                reckonedCount++;
+            }
+        }
+
+        int stateOf(int node) {
+            return Covering.at(ofNode, node);
         }
 
         boolean areEven() {
             for (int node = 0; node < trees.nodes && node < NODE_LIMIT; node++) {
                 for (int kind = 0; kind < tiles.width; kind++) {
-                    int flat = Covering.at(stateFlats, ofNode[node] * tiles.width + kind);
+                    int flat = Covering.at(stateFlats, stateOf(node) * tiles.width + kind);
                     if (flat >= 0 && flat != covering.flatOf(node, kind)) {
                         return false;
                     }
@@ -1082,9 +1095,10 @@ public final class TileChoice {
         }
 
         private int findTwin(int node) {
-            for (int i = 0; i < reckonedCount; i++) {
-                if (areTwins(node, reckoned[i])) {
-                    return reckoned[i];
+            for (int i = 0; i < reckonedCount && i < NODE_LIMIT; i++) {
+                int other = reckoned[i];
+                if (other >= 0 && other < NODE_LIMIT && areTwins(node, other)) {
+                    return other;
                 }
             }
             return NONE;
@@ -1100,10 +1114,6 @@ public final class TileChoice {
             }
             return stateOf(trees.left[node]) == stateOf(trees.left[other])
                     && stateOf(trees.right[node]) == stateOf(trees.right[other]);
-        }
-
-        private int stateOf(int node) {
-            return Covering.at(ofNode, node);
         }
 
         private int reckonState(int node) {
@@ -1253,7 +1263,7 @@ public final class TileChoice {
                 counts[step] = 0;
             }
             for (int step = 0; step < size; step++) {
-                if (above[step] >= 0) {
+                if (hasAbove(step)) {
                     counts[above[step]]++;
                 }
             }
@@ -1264,12 +1274,22 @@ public final class TileChoice {
                 counts[step] = 0;
             }
             for (int step = 0; step < size; step++) {
-                int parent = above[step];
-                if (parent >= 0) {
-                    operands[starts[parent] + counts[parent]] = step;
-                    byNeed[starts[parent] + counts[parent]] = step;
-                    counts[parent]++;
+                if (hasAbove(step)) {
+                    addOperand(above[step], step);
                 }
+            }
+        }
+
+        private boolean hasAbove(int step) {
+            return above[step] >= 0 && above[step] < step;
+        }
+
+        private void addOperand(int step, int operand) {
+            int where = starts[step] + counts[step];
+            if (where >= 0 && where < size) {
+                operands[where] = operand;
+                byNeed[where] = operand;
+                counts[step]++;
             }
         }
 
@@ -1281,9 +1301,9 @@ public final class TileChoice {
                 int need = 1;
                 int below = 1;
                 for (int i = 0; i < counts[step]; i++) {
-                    int operand = byNeed[starts[step] + i];
-                    need = Math.max(need, needs[operand] + i);
-                    below += sizes[operand];
+                    int operand = Covering.at(byNeed, starts[step] + i);
+                    need = Math.max(need, Covering.at(needs, operand) + i);
+                    below += Covering.at(sizes, operand);
                 }
                 needs[step] = need;
                 sizes[step] = below;
@@ -1295,15 +1315,20 @@ public final class TileChoice {
         }
 
         private void sortByNeed(int from, int to) {
-            for (int i = from + 1; i < to; i++) {
+            for (int i = from + 1; i < to && i < size; i++) {
                 int moved = byNeed[i];
+                int need = needAt(i);
                 int hole = i;
-                while (hole > from && needs[byNeed[hole - 1]] < needs[moved]) {
+                while (hole > from && hole > 0 && needAt(hole - 1) < need) {
                     byNeed[hole] = byNeed[hole - 1];
                     hole--;
                 }
                 byNeed[hole] = moved;
             }
+        }
+
+        private int needAt(int where) {
+            return Covering.at(needs, Covering.at(byNeed, where));
         }
 
         private void putInOrder() {
@@ -1315,12 +1340,16 @@ public final class TileChoice {
                 }
                 int first = firsts[step];
                 for (int i = 0; i < counts[step]; i++) {
-                    int operand = byNeed[starts[step] + i];
-                    firsts[operand] = first;
-                    first += sizes[operand];
+                    int operand = Covering.at(byNeed, starts[step] + i);
+                    if (operand >= 0 && operand < size) {
+                        firsts[operand] = first;
+                        first += sizes[operand];
+                    }
                 }
-                put[first] = step;
-                putNodes[first] = nodes[step];
+                if (first >= 0 && first < size) {
+                    put[first] = step;
+                    putNodes[first] = nodes[step];
+                }
             }
         }
 
@@ -1330,13 +1359,23 @@ public final class TileChoice {
             }
             for (int i = 0; i < size; i++) {
                 int step = put[i];
-                // The step above a TREE's first INSTRUCTIONS frees theirs, so each TREE begins with all free.
-                for (int j = 0; j < counts[step]; j++) {
-                    setBusy(registers[operands[starts[step] + j]], false);
+                if (step >= 0 && step < size) {
+                    giveRegister(step);
                 }
-                registers[step] = flats[step] >= 0 ? leastFree() : NONE;
-                setBusy(registers[step], true);
             }
+        }
+
+        private void giveRegister(int step) {
+            // The step above a TREE's first INSTRUCTIONS frees theirs, so each TREE begins with all free.
+            for (int i = 0; i < counts[step]; i++) {
+                setBusy(registerOf(step, i), false);
+            }
+            registers[step] = flats[step] >= 0 ? leastFree() : NONE;
+            setBusy(registers[step], true);
+        }
+
+        private int registerOf(int step, int operand) {
+            return Covering.at(registers, Covering.at(operands, starts[step] + operand));
         }
 
         private void setBusy(int register, boolean now) {
@@ -1357,19 +1396,22 @@ public final class TileChoice {
             result.length = 0;
             for (int i = 0; i < size; i++) {
                 int step = put[i];
-                int flat = flats[step];
-                if (flat >= 0 && flat < FLAT_LIMIT) {
-                    result.addText("r");
-                    result.addNumber(registers[step]);
-                    result.addText(" = ");
-                    result.addNumber(tiles.ruleNumber[flat]);
-                    for (int j = 0; j < counts[step]; j++) {
-                        result.addText(" r");
-                        result.addNumber(registers[operands[starts[step] + j]]);
-                    }
-                    result.addByte(10);
+                if (step >= 0 && step < size && flats[step] >= 0) {
+                    writeInstruction(step, result);
                 }
             }
+        }
+
+        private void writeInstruction(int step, Result result) {
+            result.addText("r");
+            result.addNumber(registers[step]);
+            result.addText(" = ");
+            result.addNumber(Covering.at(tiles.ruleNumber, flats[step]));
+            for (int i = 0; i < counts[step]; i++) {
+                result.addText(" r");
+                result.addNumber(registerOf(step, i));
+            }
+            result.addByte(10);
         }
     }
 

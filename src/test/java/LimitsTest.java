@@ -64,14 +64,25 @@ public final class LimitsTest {
         model.cover();
         model.findStates();
         model.choose();
-        TileChoice x = Check.with(machine, program);
         int[] given = new int[16];
         for (int v = 0; v < 16; v++) {
             given[v] = 3 * v + 1;
-            x.begin(v, given[v]);
         }
         System.out.println(what + ": " + model.rules + " rules, " + model.flats.size() + " flat, " + model.nodes.size()
                 + " nodes, " + model.order.size() + " instructions, " + model.listing.length() + " bytes");
+        compareCounts(what, model, Check.with(machine, program, given));
+        compareCovering(what, model, new Supply(machine, program, given, x -> x.count(5)));
+        Check.same(what + " listing", model.listing.toString(),
+                new Supply(machine, program, given, x -> x.list()).result());
+        Check.same(what + " run(false)", model.runTrees(given), Check.with(machine, program, given).run(false));
+        Check.same(what + " run(true)", model.runChosen(given), Check.with(machine, program, given).run(true));
+        Supply ran = new Supply(machine, program, given, x -> x.run(true));
+        for (int j = 0; j < 256; j++) {
+            Check.same(what + " cell " + j, model.cells[j], ran.next().cell(j));
+        }
+    }
+
+    private static void compareCounts(String what, Model model, TileChoice x) {
         Check.same(what + " rules", model.rules, x.count(0));
         Check.same(what + " kinds", model.kinds.size(), x.count(1));
         Check.same(what + " flat rules", model.flats.size(), x.count(2));
@@ -84,17 +95,15 @@ public final class LimitsTest {
         Check.same(what + " even", model.told && model.even() ? 1 : 0, x.even() ? 1 : 0);
         Check.same(what + " instructions", model.order.size(), x.count(12));
         Check.same(what + " need", model.greatestNeed, x.count(13));
-        Check.same(what + " listing", model.listing.toString(), Check.listing(x));
-        Check.same(what + " run(false)", model.runTrees(given), x.run(false));
-        Check.same(what + " run(true)", model.runChosen(given), x.run(true));
-        for (int j = 0; j < 256; j++) {
-            Check.same(what + " cell " + j, model.cells[j], x.cell(j));
-        }
+        Check.same(what + " list", model.listing.length(), x.list());
+    }
+
+    private static void compareCovering(String what, Model model, Supply supply) {
         for (int n = 0; n < model.nodes.size(); n++) {
             for (int k = 0; k < model.kinds.size(); k++) {
                 Model.Way way = model.way(n, k);
-                Check.same(what + " cost " + n + " " + k, way == null ? -1 : way.cost(), x.cost(n, k));
-                Check.same(what + " rule " + n + " " + k, way == null ? -1 : way.flat(), x.rule(n, k));
+                Check.same(what + " cost " + n + " " + k, way == null ? -1 : way.cost(), supply.next().cost(n, k));
+                Check.same(what + " rule " + n + " " + k, way == null ? -1 : way.flat(), supply.next().rule(n, k));
             }
         }
     }

@@ -18,13 +18,14 @@ public final class ModelTest {
                 // Made without a look at the limits; what is wrong is compared further down.
                 continue;
             }
-            TileChoice x = Check.with(machine, program);
+            if (!Supply.suffices(machine, program)) {
+                continue;
+            }
             int[] given = new int[16];
             for (int v = 0; v < 16; v++) {
                 given[v] = texts.below(3) == 0 ? texts.anyInt() : texts.below(10);
-                x.begin(v, given[v]);
             }
-            compareAll("seed " + seed + " ", model, x, given);
+            compareAll("seed " + seed + " ", model, machine, program, given);
             fullyCovered += model.covered() == model.trees.size() ? 1 : 0;
             notEven += model.even() ? 0 : 1;
         }
@@ -37,32 +38,13 @@ public final class ModelTest {
         Check.finish();
     }
 
-    private static void compareAll(String seed, Model model, TileChoice x, int[] given) {
+    private static void compareAll(String seed, Model model, String machine, String program, int[] given) {
         model.cover();
         model.findStates();
-        Check.same(seed + "rules", model.rules, x.count(0));
-        Check.same(seed + "kinds", model.kinds.size(), x.count(1));
-        Check.same(seed + "flat rules", model.flats.size(), x.count(2));
-        Check.same(seed + "trees", model.trees.size(), x.count(3));
-        Check.same(seed + "nodes", model.nodes.size(), x.count(4));
-        Check.same(seed + "covered", model.covered(), x.count(8));
-        Check.same(seed + "cost of trees", model.coveredCost(), x.count(9));
-        Check.same(seed + "states", model.told ? model.states.size() : 0, x.count(10));
-        Check.same(seed + "looked up", model.told ? model.lookedUp : 0, x.count(11));
-        Check.same(seed + "even", model.told && model.even() ? 1 : 0, x.even() ? 1 : 0);
-        Map<Model.Tree, Map<String, Integer>> known = new HashMap<>();
-        for (int n = 0; n < model.nodes.size(); n++) {
-            for (int k = 0; k < model.kinds.size(); k++) {
-                Model.Way way = model.way(n, k);
-                Check.same(seed + "cost " + n + " " + k, way == null ? -1 : way.cost(), x.cost(n, k));
-                Check.same(seed + "rule " + n + " " + k, way == null ? -1 : way.flat(), x.rule(n, k));
-                int tiles = model.tileCost(model.nodes.get(n), model.kinds.get(k), known);
-                Check.same(seed + "cost by tiles " + n + " " + k, tiles, x.cost(n, k));
-            }
-            Check.same(seed + "state " + n, model.told ? model.stateOf.get(model.nodes.get(n)) : -1, x.state(n));
-        }
-        Check.same(seed + "run(false)", model.runTrees(given), x.run(false));
-        compareRun(seed + "behind run(false) ", model, x);
+        compareCovering(seed, model, new Supply(machine, program, given, x -> x.count(5)));
+        Check.same(seed + "run(false)", model.runTrees(given), Check.with(machine, program, given).run(false));
+        compareRun(seed + "behind run(false) ", model, new Supply(machine, program, given, x -> x.run(false)));
+        TileChoice x = Check.with(machine, program, given);
         if (model.covered() < model.trees.size()) {
             Check.same(seed + "instructions", 0, x.count(12));
             Check.same(seed + "need", 0, x.count(13));
@@ -73,17 +55,44 @@ public final class ModelTest {
         model.choose();
         Check.same(seed + "instructions", model.order.size(), x.count(12));
         Check.same(seed + "need", model.greatestNeed, x.count(13));
-        Check.same(seed + "listing", model.listing.toString(), Check.listing(x));
+        Check.same(seed + "list", model.listing.length(), x.list());
+        Check.same(seed + "listing", model.listing.toString(), new Supply(machine, program, given, y -> y.list()).result());
         Check.same(seed + "run(true)", model.runChosen(given), x.run(true));
-        compareRun(seed + "behind run(true) ", model, x);
+        compareRun(seed + "behind run(true) ", model, new Supply(machine, program, given, y -> y.run(true)));
     }
 
-    private static void compareRun(String seed, Model model, TileChoice x) {
+    private static void compareCovering(String seed, Model model, Supply supply) {
+        Check.same(seed + "rules", model.rules, supply.next().count(0));
+        Check.same(seed + "kinds", model.kinds.size(), supply.next().count(1));
+        Check.same(seed + "flat rules", model.flats.size(), supply.next().count(2));
+        Check.same(seed + "trees", model.trees.size(), supply.next().count(3));
+        Check.same(seed + "nodes", model.nodes.size(), supply.next().count(4));
+        Check.same(seed + "covered", model.covered(), supply.next().count(8));
+        Check.same(seed + "cost of trees", model.coveredCost(), supply.next().count(9));
+        Check.same(seed + "states", model.told ? model.states.size() : 0, supply.next().count(10));
+        Check.same(seed + "looked up", model.told ? model.lookedUp : 0, supply.next().count(11));
+        Check.same(seed + "even", model.told && model.even() ? 1 : 0, supply.next().even() ? 1 : 0);
+        Map<Model.Tree, Map<String, Integer>> known = new HashMap<>();
+        for (int n = 0; n < model.nodes.size(); n++) {
+            for (int k = 0; k < model.kinds.size(); k++) {
+                Model.Way way = model.way(n, k);
+                int cost = supply.next().cost(n, k);
+                Check.same(seed + "cost " + n + " " + k, way == null ? -1 : way.cost(), cost);
+                Check.same(seed + "rule " + n + " " + k, way == null ? -1 : way.flat(), supply.next().rule(n, k));
+                int tiles = model.tileCost(model.nodes.get(n), model.kinds.get(k), known);
+                Check.same(seed + "cost by tiles " + n + " " + k, tiles, cost);
+            }
+            int state = model.told ? model.stateOf.get(model.nodes.get(n)) : -1;
+            Check.same(seed + "state " + n, state, supply.next().state(n));
+        }
+    }
+
+    private static void compareRun(String seed, Model model, Supply supply) {
         for (int v = 0; v < 16; v++) {
-            Check.same(seed + "variable " + v, model.variables[v], x.variable(v));
+            Check.same(seed + "variable " + v, model.variables[v], supply.next().variable(v));
         }
         for (int j = 0; j < 256; j++) {
-            Check.same(seed + "cell " + j, model.cells[j], x.cell(j));
+            Check.same(seed + "cell " + j, model.cells[j], supply.next().cell(j));
         }
     }
 

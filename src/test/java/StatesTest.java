@@ -88,10 +88,12 @@ public final class StatesTest {
         Check.same("no states", 0, y.count(10));
         Check.same("none looked up", 0, y.count(11));
         Check.same("not even", 0, y.even() ? 1 : 0);
-        for (int n = 0; n < y.count(4); n++) {
+        int nodes = y.count(4);
+        for (int n = 0; n < nodes; n += 2) {
             Check.same("no state(" + n + ")", -1, y.state(n));
         }
-        Check.refuses("state beyond", IndexOutOfBoundsException.class, () -> y.state(y.count(4)));
+        Check.same("no last state", -1, y.state(nodes - 1));
+        Check.refuses("state beyond", IndexOutOfBoundsException.class, () -> y.state(nodes));
         Check.same("all are covered", 11, y.count(8));
         Check.same("and chosen", 0, y.list());
         Check.same("told again with less", -1, Check.program(y, trees(1, 2) + "ret(0)"));

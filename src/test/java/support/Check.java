@@ -119,21 +119,33 @@ final class Check {
         return x;
     }
 
+    static TileChoice with(String machine, String program, int[] given) {
+        TileChoice x = with(machine, program);
+        for (int v = 0; v < given.length; v++) {
+            x.begin(v, given[v]);
+        }
+        return x;
+    }
+
     static String result(TileChoice x) {
         StringBuilder text = new StringBuilder();
         int length = x.count(6);
         for (int i = 0; i < length; i += 8) {
-            long eight = x.word(i);
-            for (int j = 0; j < 8; j++) {
-                int b = (int) (eight >>> 56 - 8 * j) & 255;
-                if (i + j < length) {
-                    text.append((char) b);
-                } else {
-                    same("byte " + (i + j) + " behind the result", 0, b);
-                }
-            }
+            addEight(text, x.word(i), length);
         }
         return text.toString();
+    }
+
+    /** Puts the bytes of a word behind a text that comes to have 'length'; what is behind that must be zeros. */
+    static void addEight(StringBuilder text, long eight, int length) {
+        for (int shift = 56; shift >= 0; shift -= 8) {
+            int b = (int) (eight >>> shift) & 255;
+            if (text.length() < length) {
+                text.append((char) b);
+            } else {
+                same("a byte behind the result", 0, b);
+            }
+        }
     }
 
     static String listing(TileChoice x) {
