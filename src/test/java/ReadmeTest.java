@@ -17,7 +17,11 @@ public final class ReadmeTest {
 
     public static void main(String[] args) throws Exception {
         String readme = Files.readString(Path.of("README.md"));
-        Check.same("the example's output", block(readme, "text"), outputOf(block(readme, "java")));
+        if (ToolProvider.getSystemJavaCompiler() == null) {
+            System.out.println("the example is not compiled: this java has no compiler in it");
+        } else {
+            Check.same("the example's output", block(readme, "text"), outputOf(block(readme, "java")));
+        }
         namesEachTest(readme);
         namesEachClass(readme);
         namesEachCall(readme);
